@@ -249,23 +249,32 @@ public final class RunJudge {
         ring.work(now, now + 1, log);
         now++;
         int settled = now - lateness - 1;
-        if (settled >= 0) {
-            lookAt(settled);
+        for (int p = 0; p < ground.players && settled >= 0; p++) {
+            lookAt(settled, p);
         }
         return now;
     }
 
-    private void lookAt(int t) {
+    private void lookAt(int t, int p) {
         State state = ring.stateAt(t);
-        for (int p = 0; p < ground.players; p++) {
-            int hit = log.hitOf(t, p);
-            int code = log.codeOf(t, p);
-            suspects[p].countHit(hit, log.isLate(t, p));
-            if (state.life[p] > 0 && Bits.kindOf(code) != WAIT) {
-                suspects[p].lookAtForesight(state, p, code, hit, riskParts, now);
-                suspects[p].lookAtGap(t, riskParts, now);
-            }
+        Suspect suspect = suspects[p];
+        int code = log.codeOf(t, p);
+        int kind = Bits.kindOf(code);
+        int d = Bits.directionOf(code);
+        boolean hasHit = log.hitOf(t, p) > 0;
+        if (hasHit) {
+            suspect.countHit(log.isLate(t, p));
         }
+        if (state.life[p] <= 0 || kind == WAIT) {
+            return;
+        }
+        if (kind == SHOT) {
+            suspect.foreseeing.addTrial(state.shotChance(p, d), hasHit, riskParts, now);
+        } else if (kind == OPEN) {
+            boolean isRight = state.isWordNext(p, d, Bits.wordOf(code));
+            suspect.foreseeing.addTrial(state.wordChance(p, d), isRight, riskParts, now);
+        }
+        suspect.lookAtGap(t, riskParts, now);
     }
 
     // ---- what is asked of the world
@@ -435,6 +444,17 @@ public final class RunJudge {
         return refusal;
     }
 
+    /** NONE, NOTHING or CAST, if TAPE d holds none of the sorts least .. most; 0 if it does. */
+    private int refuseBut(int d, int least, int most) {
+        if (!isTape(d)) {
+            return NONE;
+        }
+        if (tapes[d].sort == 0) {
+            return refuse(NOTHING);
+        }
+        return tapes[d].sort < least || tapes[d].sort > most ? refuse(CAST) : 0;
+    }
+
     public int tape(int d, int sort, int n) {
         if (!isTape(d) || sort < BYTES || sort > LONGS || n > MAX_ROW) {
             return NONE;
@@ -464,16 +484,11 @@ public final class RunJudge {
     }
 
     public int put(int d, int i, long v) {
-        if (!isTape(d)) {
-            return NONE;
+        int refusal = refuseBut(d, BYTES, LONGS);
+        if (refusal < 0) {
+            return refusal;
         }
         Tape tape = tapes[d];
-        if (tape.sort == 0) {
-            return refuse(NOTHING);
-        }
-        if (!tape.isRow()) {
-            return refuse(CAST);
-        }
         if (!tape.hasPlace(i)) {
             return refuse(PLACE);
         }
@@ -512,16 +527,14 @@ public final class RunJudge {
     }
 
     public int play(int d, int i, int n, int p) {
-        if (!isTape(d) || !ground.hasPlayer(p) || n < 0 || n > MAX_ROW) {
+        if (!ground.hasPlayer(p) || n < 0 || n > MAX_ROW) {
             return NONE;
         }
+        int refusal = refuseBut(d, LONGS, LONGS);
+        if (refusal < 0) {
+            return refusal;
+        }
         Tape tape = tapes[d];
-        if (tape.sort == 0) {
-            return refuse(NOTHING);
-        }
-        if (tape.sort != LONGS) {
-            return refuse(CAST);
-        }
         for (int k = 0; k < n; k++) {
             int place = i + k;
             if (!tape.hasPlace(place)) {
@@ -535,16 +548,11 @@ public final class RunJudge {
     }
 
     public int kept(int d, int cell) {
-        if (!isTape(d)) {
-            return NONE;
+        int refusal = refuseBut(d, VIEW, VIEW);
+        if (refusal < 0) {
+            return refusal;
         }
         Tape tape = tapes[d];
-        if (tape.sort == 0) {
-            return refuse(NOTHING);
-        }
-        if (tape.sort != VIEW) {
-            return refuse(CAST);
-        }
         if (!tape.hasPlace(cell)) {
             return refuse(PLACE);
         }
@@ -552,16 +560,11 @@ public final class RunJudge {
     }
 
     public int toss(int d) {
-        if (!isTape(d)) {
-            return NONE;
+        int refusal = refuseBut(d, VIEW, VIEW);
+        if (refusal < 0) {
+            return refusal;
         }
         Tape tape = tapes[d];
-        if (tape.sort == 0) {
-            return refuse(NOTHING);
-        }
-        if (tape.sort != VIEW) {
-            return refuse(CAST);
-        }
         try {
             tape.throwFailure();
         } catch (IllegalStateException failure) {
@@ -902,6 +905,65 @@ public final class RunJudge {
             return c >= 0 && ground.map[c] == DOOR;
         }
 
+        // -- the chances of who can't foresee
+
+        /** The CHANCE that a SHOT hits unseen, or NO_TRIAL. */
+        int shotChance(int p, int d) {
+            int unseen = rest[p] == 0 ? unseenInLine(p, d) : 0;
+            int dark = unseen > 0 ? darkCells(p) : 0;
+            if (dark <= 0) {
+                return NO_TRIAL;
+            }
+            return ONE * Math.min(hiddenThings(p) * unseen, dark) / dark;
+        }
+
+        /** How many CELLS of the LINE are unseen; 0, too, if in one that is seen something STANDS. */
+        private int unseenInLine(int p, int d) {
+            int unseen = 0;
+            int c = ground.nextTo(cell[p], d);
+            for (int k = 0; k < SHOT_CELLS && c >= 0 && !bars(c); k++) {
+                if (!spots(p, c)) {
+                    unseen++;
+                } else if (standingIn(c) >= 0) {
+                    return 0;
+                }
+                c = ground.nextTo(c, d);
+            }
+            return unseen;
+        }
+
+        private int hiddenThings(int p) {
+            int hidden = 0;
+            for (int n = 0; n < ground.things; n++) {
+                if (life[n] > 0 && !spots(p, cell[n])) {
+                    hidden++;
+                }
+            }
+            return hidden;
+        }
+
+        private int darkCells(int p) {
+            int dark = 0;
+            for (int c = 0; c < ground.cells; c++) {
+                if (ground.map[c] != WALL && !spots(p, c)) {
+                    dark++;
+                }
+            }
+            return dark;
+        }
+
+        /** The CHANCE of a WORD for the DOOR next in d, or NO_TRIAL. */
+        int wordChance(int p, int d) {
+            int c = ground.nextTo(cell[p], d);
+            return isShutDoor(c) && (known[p] >> ground.link[c] & 1) == 0 ? DOOR_CHANCE : NO_TRIAL;
+        }
+
+        /** Whether next in d is a shut DOOR with this WORD. */
+        boolean isWordNext(int p, int d, int word) {
+            int c = ground.nextTo(cell[p], d);
+            return isShutDoor(c) && ground.words[ground.link[c]] == word;
+        }
+
         // -- a tick
 
         void moveBodies(int t, Log log) {
@@ -980,9 +1042,8 @@ public final class RunJudge {
 
         private void tryWord(int p, int d, int word) {
             face[p] = d;
-            int c = ground.nextTo(cell[p], d);
-            if (isShutDoor(c) && ground.words[ground.link[c]] == word) {
-                opened[ground.link[c]] = 1;
+            if (isWordNext(p, d, word)) {
+                opened[ground.link[ground.nextTo(cell[p], d)]] = 1;
             }
         }
 
@@ -1237,7 +1298,7 @@ public final class RunJudge {
         }
 
         void addTrial(int chance, boolean isSuccess, int risk, int now) {
-            if (trials >= MAX_TRIALS) {
+            if (chance == NO_TRIAL || trials >= MAX_TRIALS) {
                 return;
             }
             trials++;
@@ -1284,69 +1345,12 @@ public final class RunJudge {
             lastGap = NONE;
         }
 
-        void countHit(int hit, boolean isLate) {
-            if (hit > 0 && isLate) {
+        void countHit(boolean isLate) {
+            if (isLate) {
                 lateHits++;
-            } else if (hit > 0) {
+            } else {
                 timelyHits++;
             }
-        }
-
-        void lookAtForesight(State state, int p, int code, int hit, int risk, int now) {
-            int kind = Bits.kindOf(code);
-            int c = state.ground.nextTo(state.cell[p], Bits.directionOf(code));
-            if (kind == SHOT) {
-                int chance = shotChance(state, p, Bits.directionOf(code));
-                if (chance != NO_TRIAL) {
-                    foreseeing.addTrial(chance, hit > 0, risk, now);
-                }
-            } else if (kind == OPEN && state.isShutDoor(c)) {
-                int door = state.ground.link[c];
-                if ((state.known[p] >> door & 1) == 0) {
-                    foreseeing.addTrial(DOOR_CHANCE, Bits.wordOf(code) == state.ground.words[door], risk, now);
-                }
-            }
-        }
-
-        private static int shotChance(State state, int p, int d) {
-            if (state.rest[p] != 0) {
-                return NO_TRIAL;
-            }
-            int unseen = 0;
-            int c = state.ground.nextTo(state.cell[p], d);
-            for (int k = 0; k < SHOT_CELLS && c >= 0 && !state.bars(c); k++) {
-                if (!state.spots(p, c)) {
-                    unseen++;
-                } else if (state.standingIn(c) >= 0) {
-                    return NO_TRIAL;
-                }
-                c = state.ground.nextTo(c, d);
-            }
-            int dark = unseen > 0 ? darkCells(state, p) : 0;
-            if (dark <= 0) {
-                return NO_TRIAL;
-            }
-            return ONE * Math.min(hiddenThings(state, p) * unseen, dark) / dark;
-        }
-
-        private static int hiddenThings(State state, int p) {
-            int hidden = 0;
-            for (int n = 0; n < state.ground.things; n++) {
-                if (state.life[n] > 0 && !state.spots(p, state.cell[n])) {
-                    hidden++;
-                }
-            }
-            return hidden;
-        }
-
-        private static int darkCells(State state, int p) {
-            int dark = 0;
-            for (int c = 0; c < state.ground.cells; c++) {
-                if (state.ground.map[c] != WALL && !state.spots(p, c)) {
-                    dark++;
-                }
-            }
-            return dark;
         }
 
         void lookAtGap(int t, int risk, int now) {
