@@ -11,7 +11,9 @@ public final class TickTest {
         takingAndPutting();
         throwing();
         throwingAtTheEdge();
+        throwingAtAPlayer();
         potsAndTraps();
+        potOfTheWeak();
         deathByTrap();
         deathByShot();
         beastWalks();
@@ -276,6 +278,32 @@ public final class TickTest {
         g.doNow(0, Check.TAKE, 0);
         g.doNow(0, Check.THROW, Check.DOWN);
         Check.due("up to the edge", g.x.thing(1, 1), 6);
+    }
+
+    private static void throwingAtAPlayer() {
+        Check.Game g = new Check.Game(3, 3, 2);
+        g.x.place(5, 8);
+        g.send(0, Check.STEP, Check.RIGHT, 0, 0);
+        g.doNow(1, Check.TAKE, 0);
+        g.doNow(1, Check.STEP, Check.UP);
+        g.doNow(1, Check.STEP, Check.UP);
+        g.doNow(1, Check.THROW, Check.LEFT);
+        Check.due("thing 0 is hit", g.x.hit(3, 1), 1);
+        Check.due("life", g.x.body(0, 1), 4);
+        Check.due("the stone goes no further", g.x.thing(2, 1), 1);
+    }
+
+    private static void potOfTheWeak() {
+        Check.Game g = new Check.Game(5, 3, 1);
+        g.x.place(4, 1);
+        g.x.place(4, 2);
+        g.x.place(3, 3);
+        for (int i = 0; i < 2; i++) g.doNow(0, Check.STEP, Check.RIGHT);
+        Check.due("1 is left", g.x.body(0, 1), 1);
+        Check.due("who has 1 sees", g.x.sees(0, 0), 1);
+        Check.due("and is written to", g.x.letter(0, 2) == 0 ? 1 : 0, 0);
+        g.doNow(0, Check.STEP, Check.RIGHT);
+        Check.due("a pot gives 2", g.x.body(0, 1), 3);
     }
 
     private static void potsAndTraps() {

@@ -12,6 +12,9 @@ public final class WatchTest {
         shotWithoutTrial();
         chanceOfOne();
         chanceOfNone();
+        oneDarkCell();
+        woundedAndUnseen();
+        sixtyFourThatAreSure();
         settledLater();
         machine();
         machineWaitsAndUnevenGaps();
@@ -176,6 +179,41 @@ public final class WatchTest {
         k.x.late(0);
         k.doNow(0, Check.SHOT, Check.RIGHT);
         watch("chance 0 is a trial all the same", k.x, 0, 0, 1, 0, ONE, 0);
+    }
+
+    private static void oneDarkCell() {
+        Check.Game g = new Check.Game(6, 3, 1);
+        g.x.late(0);
+        g.x.wall(11);
+        g.x.wall(17);
+        g.doNow(0, Check.SHOT, Check.RIGHT);
+        watch("the only dark cell is in the line", g.x, 0, 0, 1, 0, ONE, 0);
+    }
+
+    /** The beast at 6 has 1 LIFE left at the second SHOT: 1 times 3 of 15. */
+    private static void woundedAndUnseen() {
+        Check.Game g = new Check.Game(10, 3, 1);
+        g.x.late(0);
+        g.x.place(1, 6);
+        g.doNow(0, Check.SHOT, Check.RIGHT);
+        watch("whole", g.x, 0, 0, 1, 1, 209715, 0);
+        g.steps(2);
+        g.doNow(0, Check.SHOT, Check.RIGHT);
+        watch("wounded", g.x, 0, 0, 2, 2, (int) (209715L * 209715 / ONE), 0);
+    }
+
+    /** Cells 5, 6, 7, 21 and 23 are dark, 3 of them in the line, and 2 THINGS stand there: the row T ends at T(64). */
+    private static void sixtyFourThatAreSure() {
+        Check.Game g = new Check.Game(8, 3, 2);
+        g.x.late(0);
+        int[] walls = {13, 14, 15, 22};
+        for (int c : walls) g.x.wall(c);
+        g.x.place(1, 21);
+        for (int i = 0; i < 64; i++) {
+            g.doNow(0, Check.SHOT, Check.RIGHT);
+            g.steps(2);
+        }
+        watch("64 of them, and no hit", g.x, 0, 0, 64, 0, ONE, 0);
     }
 
     private static void settledLater() {
