@@ -177,6 +177,7 @@ public final class OracleTest {
         if (profile == 5) call("begin", any(3, 5), 3, any(1, 2));
         int n = profile == 0 ? any(0, 5) : any(0, 30);
         for (int i = 0; i < n; i++) setUpCall(profile);
+        if (rarely(20)) for (int i = 0; i < 15; i++) call("door", cell(), about(0, 15));
         if (profile == 5) call("door", 1, any(0, 15));
     }
 
