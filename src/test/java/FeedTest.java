@@ -16,7 +16,7 @@ public final class FeedTest {
     }
 
     private static void pack() {
-        RunJudge x = new RunJudge();
+        Judge x = new Judge();
         Check.due("all 0", x.pack(0, 0, 0, 0, 0), 0);
         Check.due("kind 1", x.pack(1, 0, 0, 0, 0), 1L + (1L << 34));
         Check.due("d 2", x.pack(0, 2, 0, 0, 0), 32L + (6L << 34));
@@ -31,7 +31,7 @@ public final class FeedTest {
     }
 
     private static void garbled() {
-        RunJudge x = new RunJudge();
+        Judge x = new Judge();
         long good = x.pack(1, 1, 0, 0, 0);
         Check.due("player -1", x.feed(-1, good), RunJudge.NONE);
         Check.due("player 2", x.feed(2, good), RunJudge.NONE);
@@ -63,7 +63,7 @@ public final class FeedTest {
     }
 
     private static void seqs() {
-        RunJudge x = new RunJudge();
+        Judge x = new Judge();
         Check.due("seq 1 first", x.feed(0, x.pack(1, 1, 0, 0, 1)), RunJudge.SEQ);
         Check.due("seq ahead of early", x.feed(0, x.pack(1, 1, 0, 9, 1)), RunJudge.SEQ);
         Check.due("seq 0", x.feed(0, x.pack(1, 1, 0, 0, 0)), 0);
@@ -75,15 +75,15 @@ public final class FeedTest {
     }
 
     private static void seqGoesRound() {
-        RunJudge x = new RunJudge();
+        Judge x = new Judge();
         for (int t = 0; t < 255; t++) {
-            x.feed(0, x.pack(0, 0, 0, t, t));
-            x.step();
+            Check.due("taken", x.feed(0, Check.bits(0, 0, 0, t, t)), 0);
+            if (t > 1) x.step();
         }
-        Check.due("taken", x.count(8), 255);
-        Check.due("seq 0 is not next", x.feed(0, x.pack(0, 0, 0, 255, 0)), RunJudge.SEQ);
-        Check.due("seq 255", x.feed(0, x.pack(0, 0, 0, 255, 255)), 0);
-        Check.due("then 0", x.feed(0, x.pack(0, 0, 0, 256, 0)), 0);
+        Check.due("seq 0 is not next", x.feed(0, Check.bits(0, 0, 0, 255, 0)), RunJudge.SEQ);
+        Check.due("seq 255", x.feed(0, Check.bits(0, 0, 0, 255, 255)), 0);
+        x.step();
+        Check.due("then 0", x.feed(0, Check.bits(0, 0, 0, 256, 0)), 0);
     }
 
     private static void ticks() {

@@ -12,11 +12,11 @@ public final class HostTest {
         Check.end("HostTest");
     }
 
-    private static void row(String what, RunJudge x, int i, int... want) {
+    private static void row(String what, Judge x, int i, int... want) {
         for (int k = 0; k < 4; k++) Check.due(what + ", what " + k, x.taken(i, k), want[k]);
     }
 
-    private static void back(String what, RunJudge x, int... want) {
+    private static void back(String what, Judge x, int... want) {
         for (int k = 0; k < 4; k++) Check.due(what + ", back(" + k + ")", x.back(k), want[k]);
     }
 
@@ -148,8 +148,8 @@ public final class HostTest {
         Check.due("replay(-1)", g.x.replay(-1), RunJudge.NONE);
         Check.due("going back still goes", g.send(0, Check.STEP, Check.UP, 0, 20), 4);
         Check.due("it went", g.x.body(0, 0), 0);
-        Check.due("fall at tick 0", new RunJudge().fall(), 1);
-        Check.due("replay at tick 0", new RunJudge().replay(0), new RunJudge().digest(0));
+        Check.due("fall at tick 0", new Judge().fall(), 1);
+        Check.due("replay at tick 0", new Judge().replay(0), new Judge().digest(0));
     }
 
     private static void acts() {

@@ -15,7 +15,7 @@ public final class RoomTest {
         run(x);
         long forTheCalls = made() - before;
         Check.due("a new object stays below 256 KiB", forTheObject < 256 << 10 ? 1 : 0, 1);
-        Check.due("510 calls stay below 64 KiB: " + forTheCalls, forTheCalls < 64 << 10 ? 1 : 0, 1);
+        Check.due("507 calls stay below 64 KiB: " + forTheCalls, forTheCalls < 64 << 10 ? 1 : 0, 1);
         Check.end("RoomTest");
     }
 
@@ -26,7 +26,7 @@ public final class RoomTest {
     private static void run(RunJudge x) {
         x.begin(10, 10, 4);
         for (int i = 0; i < 11; i++) x.place(1 + i % 2, 44 + i);
-        for (int t = 0; t < 60; t++) {
+        for (int t = 0; t < 55; t++) {
             x.feed(0, x.pack(1, t & 3, 0, t, t));
             x.step();
             x.replay(t);

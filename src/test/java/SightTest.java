@@ -14,12 +14,12 @@ public final class SightTest {
         Check.end("SightTest");
     }
 
-    private static void seen(String what, RunJudge x, String cells) {
+    private static void seen(String what, Judge x, String cells) {
         for (int c = 0; c < cells.length(); c++) Check.due(what + ", cell " + c, x.sees(0, c), cells.charAt(c) - '0');
     }
 
     private static void reach() {
-        RunJudge x = new RunJudge();
+        Judge x = new Judge();
         x.begin(6, 6, 1);
         seen("four each way", x, "111110" + "111110" + "111110" + "111110" + "111110" + "000000");
     }
@@ -40,7 +40,7 @@ public final class SightTest {
     }
 
     private static void rays() {
-        RunJudge x = new RunJudge();
+        Judge x = new Judge();
         x.begin(5, 5, 1);
         x.wall(6);
         // to (2, 1) and (1, 2) the half is rounded up: through (1, 1); to (3, 1) through (1, 0) and (2, 1)
@@ -138,7 +138,7 @@ public final class SightTest {
     }
 
     private static void windows() {
-        RunJudge x = new RunJudge();
+        Judge x = new Judge();
         int[] digests = new int[13];
         int[] letters = new int[13];
         for (int t = 0; t <= 12; t++) {
@@ -159,7 +159,7 @@ public final class SightTest {
     }
 
     private static void wrongNumbers() {
-        RunJudge x = new RunJudge();
+        Judge x = new Judge();
         int[] wrong = {-1, 49, Integer.MAX_VALUE, Integer.MIN_VALUE};
         for (int w : wrong) {
             Check.due("sees(0, " + w + ")", x.sees(0, w), RunJudge.NONE);

@@ -17,7 +17,7 @@ public final class TapeTest {
     }
 
     private static void tape() {
-        RunJudge x = new RunJudge();
+        Judge x = new Judge();
         Check.due("tape(0, 1, 80)", x.tape(0, 1, 80), 80);
         Check.due("the last", x.put(0, 79, 5), 1);
         Check.due("none behind it", x.put(0, 80, 5), RunJudge.PLACE);
@@ -38,7 +38,7 @@ public final class TapeTest {
     }
 
     private static void narrowing() {
-        RunJudge x = new RunJudge();
+        Judge x = new Judge();
         long v = 0x123456789ABCDEFFL;
         long[] want = {0, -1, (short) 0xDEFF, 0x9ABCDEFF, v};
         for (int sort = 1; sort <= 4; sort++) {
@@ -56,7 +56,7 @@ public final class TapeTest {
     }
 
     private static void put() {
-        RunJudge x = new RunJudge();
+        Judge x = new Judge();
         x.tape(0, 2, 3);
         x.view(1, 0);
         Check.due("tape -1", x.put(-1, 0, 1), RunJudge.NONE);
@@ -69,7 +69,7 @@ public final class TapeTest {
         Check.due("refusals of the host's, no NONE", x.count(10), 5);
     }
 
-    private static int thrownBy(RunJudge x, int d, int i) {
+    private static int thrownBy(Judge x, int d, int i) {
         try {
             x.at(d, i);
             return 0;
@@ -81,7 +81,7 @@ public final class TapeTest {
     }
 
     private static void at() {
-        RunJudge x = new RunJudge();
+        Judge x = new Judge();
         x.tape(0, 3, 2);
         x.view(1, 0);
         Check.due("there", thrownBy(x, 0, 1), 0);
@@ -94,12 +94,12 @@ public final class TapeTest {
         Check.due("these are not counted", x.count(10), 0);
     }
 
-    private static void row(String what, RunJudge x, int d, long... want) {
+    private static void row(String what, Judge x, int d, long... want) {
         for (int i = 0; i < want.length; i++) Check.due(what + ", place " + i, x.at(d, i), want[i]);
     }
 
     private static void copy() {
-        RunJudge x = new RunJudge();
+        Judge x = new Judge();
         x.tape(0, 3, 5);
         x.tape(1, 3, 3);
         for (int i = 0; i < 5; i++) x.put(0, i, i + 1);
@@ -114,7 +114,7 @@ public final class TapeTest {
     }
 
     private static void copyRefused() {
-        RunJudge x = new RunJudge();
+        Judge x = new Judge();
         x.tape(0, 3, 5);
         x.tape(1, 3, 3);
         x.tape(2, 4, 3);
@@ -138,7 +138,7 @@ public final class TapeTest {
     }
 
     private static void play() {
-        RunJudge x = new RunJudge();
+        Judge x = new Judge();
         x.tape(0, 4, 4);
         x.put(0, 0, x.pack(1, 1, 0, 0, 0));
         x.put(0, 1, x.pack(1, 1, 0, 1, 1));
@@ -165,7 +165,7 @@ public final class TapeTest {
     }
 
     private static void playRefused() {
-        RunJudge x = new RunJudge();
+        Judge x = new Judge();
         x.tape(0, 4, 4);
         x.tape(1, 3, 4);
         x.view(2, 0);
@@ -239,7 +239,7 @@ public final class TapeTest {
     }
 
     private static void clear() {
-        RunJudge x = new RunJudge();
+        Judge x = new Judge();
         for (int sort = 1; sort <= 4; sort++) {
             x.tape(sort, sort, 2);
             Check.due("clear " + sort, x.clear(sort), sort);
@@ -259,7 +259,7 @@ public final class TapeTest {
     }
 
     private static void count() {
-        RunJudge x = new RunJudge();
+        Judge x = new Judge();
         x.begin(4, 6, 3);
         x.door(5, 1);
         x.place(1, 9);

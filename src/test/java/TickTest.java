@@ -29,7 +29,7 @@ public final class TickTest {
     }
 
     private static void stepsAlone() {
-        RunJudge x = new RunJudge();
+        Judge x = new Judge();
         for (int t = 1; t <= 5; t++) Check.due("step", x.step(), t);
         Check.due("body(0, 0)", x.body(0, 0), 0);
         Check.due("body(1, 0)", x.body(1, 0), 48);
@@ -37,7 +37,7 @@ public final class TickTest {
     }
 
     private static void wrongNumbers() {
-        RunJudge x = new RunJudge();
+        Judge x = new Judge();
         x.door(3, 3);
         int[] far = {-1, 7, Integer.MAX_VALUE, Integer.MIN_VALUE};
         for (int what : far) {

@@ -27,12 +27,12 @@ public final class WatchTest {
         Check.end("WatchTest");
     }
 
-    private static void watch(String what, RunJudge x, int p, int kind, int... want) {
+    private static void watch(String what, Judge x, int p, int kind, int... want) {
         for (int k = 0; k < 4; k++) Check.due(what + ", watch(" + p + ", " + kind + ", " + k + ")", x.watch(p, kind, k), want[k]);
     }
 
     private static void atFirst() {
-        RunJudge x = new RunJudge();
+        Judge x = new Judge();
         for (int p = 0; p < 2; p++) {
             watch("at first", x, p, 0, 0, 0, ONE, 0);
             watch("at first", x, p, 1, 0, 0, ONE, 0);
@@ -374,7 +374,7 @@ public final class WatchTest {
     }
 
     private static void wrongNumbers() {
-        RunJudge x = new RunJudge();
+        Judge x = new Judge();
         int[] wrong = {-1, 4, Integer.MAX_VALUE, Integer.MIN_VALUE};
         for (int w : wrong) {
             Check.due("watch player " + w, x.watch(w, 0, 0), RunJudge.NONE);

@@ -14,7 +14,7 @@ public final class WorldTest {
     }
 
     private static void newObject() {
-        RunJudge x = new RunJudge();
+        Judge x = new Judge();
         int[] counts = {7, 7, 2, 2, 0, 0, 4, 1048, 0, 0, 0};
         for (int i = 0; i < counts.length; i++) Check.due("count(" + i + ")", x.count(i), counts[i]);
         int[] first = {0, 5, 1, 0, -1, 0, 0};
@@ -32,7 +32,7 @@ public final class WorldTest {
     }
 
     private static void begin() {
-        RunJudge x = new RunJudge();
+        Judge x = new Judge();
         Check.due("begin(4, 5, 4)", x.begin(4, 5, 4), 20);
         int[] cells = {0, 19, 3, 16};
         for (int p = 0; p < 4; p++) {
@@ -53,7 +53,7 @@ public final class WorldTest {
     }
 
     private static void beginForgets() {
-        RunJudge x = new RunJudge();
+        Judge x = new Judge();
         x.door(3, 5);
         x.plate(0, 0);
         x.place(7, 0);
@@ -81,7 +81,7 @@ public final class WorldTest {
     }
 
     private static void wall() {
-        RunJudge x = new RunJudge();
+        Judge x = new Judge();
         Check.due("wall(5)", x.wall(5), 1);
         Check.due("wall(5) again", x.wall(5), 0);
         int[] none = {-1, 49, Integer.MAX_VALUE, Integer.MIN_VALUE};
@@ -103,7 +103,7 @@ public final class WorldTest {
     }
 
     private static void door() {
-        RunJudge x = new RunJudge();
+        Judge x = new Judge();
         Check.due("door(1, 0)", x.door(1, 0), 0);
         Check.due("door(2, 15)", x.door(2, 15), 1);
         Check.due("word 16", x.door(3, 16), RunJudge.NONE);
@@ -131,7 +131,7 @@ public final class WorldTest {
     }
 
     private static void plate() {
-        RunJudge x = new RunJudge();
+        Judge x = new Judge();
         Check.due("no door yet", x.plate(5, 0), RunJudge.NONE);
         x.door(1, 3);
         x.door(2, 4);
@@ -157,7 +157,7 @@ public final class WorldTest {
     }
 
     private static void place() {
-        RunJudge x = new RunJudge();
+        Judge x = new Judge();
         for (int kind = 1; kind <= 7; kind++) Check.due("place(" + kind + ")", x.place(kind, 10 + kind), 1 + kind);
         int[] lives = {2, 3, 0, 0, 0, 0, 0};
         for (int n = 2; n < 9; n++) {
@@ -190,7 +190,7 @@ public final class WorldTest {
     }
 
     private static void late() {
-        RunJudge x = new RunJudge();
+        Judge x = new Judge();
         Check.due("late(0)", x.late(0), 4);
         Check.due("late(8)", x.late(8), 0);
         Check.due("late(9)", x.late(9), RunJudge.NONE);
@@ -203,7 +203,7 @@ public final class WorldTest {
     }
 
     private static void risk() {
-        RunJudge x = new RunJudge();
+        Judge x = new Judge();
         Check.due("risk(0)", x.risk(0), 1048);
         Check.due("risk(2^20)", x.risk(1 << 20), 0);
         Check.due("risk(2^20 + 1)", x.risk((1 << 20) + 1), RunJudge.NONE);
