@@ -44,6 +44,8 @@ public final class EdgesOfATickTest extends Check {
         restFalls();
         plateTellsTheLiving();
         cellsOfTheGoneAndTheCarried();
+        sixteenThings();
+        beastBehindFourPlayers();
         stepCounts();
         stepIsFull();
         bodyAnswers();
@@ -679,6 +681,7 @@ public final class EdgesOfATickTest extends Check {
             due("it is carried", g.x.body(0, 4), 1);
             due("its cell", g.x.thing(1, 1), -2);
             due("the face stays", g.x.body(0, 2), RIGHT);
+            due("no hit", g.x.hit(1, 0), 0);
         }
         Game h = new Game(3, 3, 1);
         h.places(STONE, 0);
@@ -686,6 +689,7 @@ public final class EdgesOfATickTest extends Check {
         h.steps(2);
         due("nothing carried: the stone lies", h.x.thing(1, 1), 0);
         due("the face stays", h.x.body(0, 2), RIGHT);
+        due("no hit", h.x.hit(1, 0), 0);
     }
 
     // ---- ENTERS
@@ -791,6 +795,15 @@ public final class EdgesOfATickTest extends Check {
             due("of player 0", g.x.body(0, 3), r[0]);
             due("of player 1", g.x.body(1, 3), r[1]);
         }
+        Game h = new Game(3, 3, 1);
+        h.places(TRAP, 1, 1, 1);
+        h.doNow(0, SHOT, UP);
+        h.doNow(0, STEP, RIGHT);
+        due("of the dead, too", h.x.body(0, 1) * 10 + h.x.body(0, 3), 1);
+        h.steps(1);
+        due("down to 0", h.x.body(0, 3), 0);
+        h.steps(1);
+        due("and no further", h.x.body(0, 3), 0);
     }
 
     private static void plateTellsTheLiving() {
@@ -837,6 +850,44 @@ public final class EdgesOfATickTest extends Check {
         h.places(TRAP, 3);
         h.steps(1);
         due("the dead have their cell", h.x.thing(1, 1), 3);
+    }
+
+    /** With all THINGS that there can be, each ACT finds or doesn't find the last of them. */
+    private static void sixteenThings() {
+        sentence("THINGS are numbered 0 .. 15");
+        Game g = new Game(8, 3, 1);
+        for (int n = 1; n < 15; n++) g.places(POT, 9);
+        g.places(CROWN, 1);
+        g.doNow(0, TAKE, 0);
+        due("nothing to take", g.x.body(0, 4), -1);
+        g.doNow(0, SHOT, RIGHT);
+        due("nobody to hit", g.x.hit(1, 0), 0);
+        g.doNow(0, STEP, RIGHT);
+        g.doNow(0, TAKE, 0);
+        due("the last", g.x.body(0, 4), 15);
+        g.doNow(0, STEP, DOWN);
+        for (int n = 1; n < 15; n++) due("pots are gone", g.x.thing(n, 1), -1);
+        Game h = new Game(8, 3, 1);
+        for (int n = 1; n < 15; n++) h.places(STONE, 0);
+        h.places(TRAP, 1);
+        h.doNow(0, STEP, RIGHT);
+        due("the last is entered", h.x.thing(15, 1), -1);
+        due("life", h.x.body(0, 1), 3);
+        Game k = new Game(8, 3, 1);
+        for (int n = 1; n < 15; n++) k.places(STONE, 0);
+        k.places(BEAST, 7);
+        k.doNow(0, SHOT, RIGHT);
+        due("the last is hit", k.x.hit(0, 0), 16);
+    }
+
+    private static void beastBehindFourPlayers() {
+        sentence("When a BODY's LIFE comes to 0 what it carries LIES in its CELL from then on");
+        Game g = new Game(10, 10, 4);
+        g.places(BEAST, 4);
+        g.places(TRAP, 3);
+        g.steps(1);
+        due("thing 4 dies, and nothing is dropped", g.x.thing(4, 2) * 10 + g.x.thing(4, 1), 3);
+        for (int p = 0; p < 4; p++) due("a body", g.x.body(p, 1), 5);
     }
 
     // ---- promises 11 to 14

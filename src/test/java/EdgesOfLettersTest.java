@@ -3,6 +3,7 @@ public final class EdgesOfLettersTest extends Check {
     public static void main(String[] args) {
         packLaysTheBits();
         packTakesLowBits();
+        packIsTaken();
         sumGoesRound();
         feedHasPlayers();
         highBitsAreGarbled();
@@ -70,6 +71,19 @@ public final class EdgesOfLettersTest extends Check {
         }
         due("all at once", x.pack(-1, -1, -1, -1, -1), bits(15, 3, 15, 65535, 255));
         due("all others 0", x.pack(-1, -1, -1, -1, -1) >>> 42, 0);
+    }
+
+    private static void packIsTaken() {
+        sentence("The BITS of a letter with the right SUM");
+        Judge x = new Judge();
+        int[][] acts = {{WAIT, 0, 0}, {STEP, 3, 0}, {SHOT, 2, 0}, {OPEN, 3, 15}, {TAKE, 0, 0}, {PUT, 0, 0}, {THROW, 1, 0}};
+        int seq = 0;
+        for (int[] a : acts) {
+            int t = x.now + 1;
+            due("kind " + a[0], x.feed(0, x.pack(a[0], a[1], a[2], t, seq++)), 0);
+            due("its act", x.act(t, 0), a[0] + 16 * a[1] + 64 * a[2]);
+            x.step();
+        }
     }
 
     private static void sumGoesRound() {

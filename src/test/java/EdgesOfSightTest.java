@@ -26,6 +26,7 @@ public final class EdgesOfSightTest extends Check {
         lettersAfterGoingBack();
         digestOfAFullWorld();
         digestOfTheDeadAndTheGone();
+        numbersBelowNought();
         end("EdgesOfSightTest");
     }
 
@@ -227,7 +228,7 @@ public final class EdgesOfSightTest extends Check {
     }
 
     private static void toldTellsTheMap() {
-        sentence("else its MAP (4 for a DOOR that is open)");
+        sentence("MAP of a CELL: 0 FLOOR, 1 WALL, 2 DOOR, 3 PLATE");
         Game g = new Game(3, 3, 1);
         g.x.door(1, 2);
         g.x.door(3, 2);
@@ -235,6 +236,7 @@ public final class EdgesOfSightTest extends Check {
         g.x.plate(0, 0);
         g.opens(0, RIGHT, 2);
         due("a plate, a body", g.x.told(0, 0), 3 + 8);
+        sentence("else its MAP (4 for a DOOR that is open)");
         due("an open door", g.x.told(0, 1), 4);
         due("floor", g.x.told(0, 2), 0);
         due("a shut door", g.x.told(0, 3), 2);
@@ -278,6 +280,12 @@ public final class EdgesOfSightTest extends Check {
         due("a living beast", h.x.told(0, 4), 8);
         h.steps(1);
         due("a dead one", h.x.told(0, 3), 0);
+        Game k = new Game(6, 3, 1);
+        k.places(WOLF, 4);
+        k.places(TRAP, 3, 3);
+        due("a living wolf", k.x.told(0, 4), 8);
+        k.steps(1);
+        due("a dead one", k.x.told(0, 3), 0);
     }
 
     private static void toldHasPlayersAndCells() {
@@ -353,6 +361,13 @@ public final class EdgesOfSightTest extends Check {
         due("the beast is dead", g.x.thing(2, 2), 0);
         int[] wanted = {0, 512 * 5, 1, 2, 3, 4, 5, 4 + 32 * LAMP, 6, 7, 8, 5, 0};
         due("neither traps nor the dead", g.x.letter(0, 1), fold(1, wanted));
+        Game h = new Game(3, 3, 1);
+        h.places(WOLF, 2);
+        h.places(TRAP, 1, 1);
+        h.steps(1);
+        due("the wolf is dead", h.x.thing(1, 2) * 10 + h.x.thing(1, 1), 1);
+        int[] alone = {0, 512 * 5, 1, 2, 3, 4, 5, 6, 7, 8, 5, 0};
+        due("nor a dead wolf", h.x.letter(0, 1), fold(1, alone));
     }
 
     private static void letterHasPlayers() {
@@ -423,6 +438,7 @@ public final class EdgesOfSightTest extends Check {
         for (int n = 1; n < 15; n++) sum = fold(sum, 0, 0, 0, 0, 0, 0);
         sum = fold(sum, -2, 0, 0, 0, 0, 1);
         due("doors, points, known", g.x.digest(1), fold(sum, 0, 0, 0, 0, 0, 0, 0, 0, 0, 128));
+        sentence("for each DOOR x is 1 if it is open, else 0; for each player x is POINTS, then KNOWN (the sum of 2^number)");
         Game h = new Game(3, 3, 4);
         h.places(CROWN, 6);
         h.x.door(7, 1);
@@ -443,5 +459,16 @@ public final class EdgesOfSightTest extends Check {
         g.doNow(0, STEP, DOWN);
         int[] wanted = {3, 0, 2, 0, 0, 0, -1, 0, 0, 0, 0, 0, -1, 0, 0, 0, 0, 0, -1, 0, 0, 0, 0, 0, 8, 2, 0, 0, 0, 0, 0, 0};
         due("the dead have cell and face, the gone have none", g.x.digest(1), fold(7, wanted));
+    }
+
+    private static void numbersBelowNought() {
+        sentence("(It may be a number below 0.)");
+        Judge x = new Judge();
+        due("a letter", x.letter(0, 0), -1742594516);
+        x.step();
+        x.step();
+        due("a digest", x.digest(2), -221741921);
+        due("worked anew", x.replay(2), -221741921);
+        due("which is as it was", x.fall(), 1);
     }
 }

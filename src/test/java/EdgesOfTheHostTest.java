@@ -12,6 +12,7 @@ public final class EdgesOfTheHostTest extends Check {
         newHitsAreNotTakenBack();
         sameHitIsNotTakenBack();
         anotherThingIsTakenBack();
+        takenBackOfEachPlayer();
         takenBackInOrder();
         takenBackTwice();
         sixtyFourAreNoted();
@@ -183,6 +184,24 @@ public final class EdgesOfTheHostTest extends Check {
         due("of 0", g.x.hit(4, 2), 1);
         row("it was of 1", g, 0, 4, 2, 1, 5);
         due("lives", g.x.body(0, 1) * 10 + g.x.body(1, 1), 35);
+    }
+
+    /** Each shoots along its row at who stands in the other corner, and who then steps out of the line, late. */
+    private static void takenBackOfEachPlayer() {
+        sentence("is TAKEN BACK: noted, in order of ticks, then players, with tick, player, the THING it was, and NOW");
+        int[] victims = {2, 3, 0, 1};
+        int[] directions = {RIGHT, LEFT, LEFT, RIGHT};
+        for (int p = 0; p < 4; p++) {
+            Game g = new Game(3, 3, 4);
+            int v = victims[p];
+            g.steps(1);
+            g.doNow(p, SHOT, directions[p]);
+            due("a hit", g.x.hit(1, p), v + 1);
+            due("out of the line", g.send(v, STEP, v == 0 || v == 2 ? DOWN : UP, 0, 0), 2);
+            due("no hit", g.x.hit(1, p), 0);
+            row("of player " + p, g, 0, 1, p, v, 2);
+            due("life", g.x.body(v, 1), 5);
+        }
     }
 
     /** Players 2 (in CELL 4) and 3 (in CELL 0) both shoot player 0, between them in CELL 2, in ticks 3 and 6. */

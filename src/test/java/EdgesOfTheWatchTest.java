@@ -9,6 +9,7 @@ public final class EdgesOfTheWatchTest extends Check {
         lateActsAreLookedAt();
         shotWithRest();
         nothingStandsWhereItSees();
+        bodyNoughtIsAThing();
         deadAndLyingAreNoMatter();
         unseenCellsOfTheLine();
         lineOfSevenAtMost();
@@ -21,6 +22,7 @@ public final class EdgesOfTheWatchTest extends Check {
         openOfAShutDoor();
         openOfAKnownDoor();
         openOfWhatAnotherOpens();
+        rowAtFirst();
         firstGap();
         sameGaps();
         gapsOfEveryKind();
@@ -28,6 +30,7 @@ public final class EdgesOfTheWatchTest extends Check {
         tailFromTheSuccessesOn();
         sixtyFourTrials();
         sixtyFourForeseen();
+        sixtyFourThatAreSure();
         tailAtMostRisk();
         riskOfNought();
         riskOfAll();
@@ -193,6 +196,20 @@ public final class EdgesOfTheWatchTest extends Check {
         due("one seen, one unseen: no trial", k.x.watch(0, 0, 0), 0);
     }
 
+    /** Player 2 in CELL 7 shoots along the row to CELL 0; it SEES down to CELL 3. */
+    private static void bodyNoughtIsAThing() {
+        sentence("if no THING STANDS in a CELL of the LINE that the BODY SEES, and c, the number of its CELLS that it doesn't SEE, is above 0");
+        Game g = atOnce(8, 3, 3);
+        g.doNow(2, SHOT, LEFT);
+        due("body 0 is hit, unseen", g.x.hit(0, 2), 1);
+        watch("CELL 0 is in the line: 1 times 3 of 9", g, 2, 0, 1, 1, ONE / 3, 0);
+        Game h = atOnce(8, 3, 3);
+        for (int i = 0; i < 3; i++) h.doNow(0, STEP, RIGHT);
+        h.doNow(2, SHOT, LEFT);
+        due("body 0 is hit, seen", h.x.hit(3, 2), 1);
+        watch("no trial", h, 2, 0, 0, 0, ONE, 0);
+    }
+
     private static void deadAndLyingAreNoMatter() {
         sentence("if no THING STANDS in a CELL of the LINE that the BODY SEES");
         Game g = atOnce(10, 3, 1);
@@ -289,6 +306,14 @@ public final class EdgesOfTheWatchTest extends Check {
         k.doNow(1, STEP, LEFT);
         due("player 1 is dead in 19", k.x.body(1, 1) * 100 + k.x.body(1, 0), 19);
         due("the dead are none", chanceOf(k), 2 * ONE / 6);
+        Game m = sevenByThree(1, 5);
+        m.doNow(0, SHOT, RIGHT);
+        m.steps(2);
+        m.doNow(0, SHOT, RIGHT);
+        watch("one that had 1 life", m, 0, 0, 2, 2, (int) (349525L * 349525 / ONE), 0);
+        Game n = sevenByThree(1, 5, 12);
+        for (int i = 3; i < 16; i++) n.places(POT, 0);
+        due("of 16 things", chanceOf(n), (int) (4L * ONE / 6));
     }
 
     private static void cellsUnseen() {
@@ -416,6 +441,17 @@ public final class EdgesOfTheWatchTest extends Check {
         watch("though player 0 opens it first", g, 2, 0, 1, 1, 65536, 0);
     }
 
+    private static void rowAtFirst() {
+        sentence("For each player and kind there is a row T, T(0) ONE, the others 0");
+        Game g = atOnce(3, 3, 4);
+        for (int p = 0; p < 4; p++) for (int kind = 0; kind < 2; kind++) watch("at first", g, p, kind, 0, 0, ONE, 0);
+        g.x.door(1, 9);
+        g.opens(2, LEFT, 9);
+        watch("of its own", g, 2, 0, 1, 1, 65536, 0);
+        watch("not of the other kind", g, 2, 1, 0, 0, ONE, 0);
+        for (int p = 0; p < 4; p++) if (p != 2) watch("nor of the others", g, p, 0, 0, 0, ONE, 0);
+    }
+
     // ---- MACHINE
 
     private static void firstGap() {
@@ -541,6 +577,19 @@ public final class EdgesOfTheWatchTest extends Check {
         g.opens(0, RIGHT, 5);
         due("the door opens", g.x.open(0), 1);
         watch("but counts for nothing", g, 0, 0, 64, 0, tail, 0);
+    }
+
+    /** Cells 5, 6, 7, 21 and 23 are dark, 3 of them in the line, and 2 THINGS stand in the others: T(64) is ONE. */
+    private static void sixtyFourThatAreSure() {
+        sentence("The TAIL is the sum of T(k) over all k from the number of SUCCESSES on");
+        Game g = atOnce(8, 3, 2);
+        g.walls(13, 14, 15, 22);
+        g.places(BEAST, 21);
+        for (int i = 0; i < 64; i++) {
+            g.doNow(0, SHOT, RIGHT);
+            g.steps(2);
+        }
+        watch("64 of them, and no hit", g, 0, 0, 64, 0, ONE, 0);
     }
 
     // ---- TOLD

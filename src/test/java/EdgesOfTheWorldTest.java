@@ -11,7 +11,9 @@ public final class EdgesOfTheWorldTest extends Check {
         whatBars();
         thingsAreNumbered();
         bodiesOfPlayers();
+        kindsOfThings();
         faceAndLifeAtFirst();
+        restKnownAndPointsAtFirst();
         standingNeedsLife();
         lyingIsNotGone();
         lyingIsNotCarried();
@@ -19,6 +21,7 @@ public final class EdgesOfTheWorldTest extends Check {
         newObject();
         beginTakesAndRefuses();
         beginForgetsTheWorld();
+        beginForgetsKinds();
         beginForgetsTheRun();
         beginForgetsTheWatch();
         tapesStay();
@@ -212,6 +215,38 @@ public final class EdgesOfTheWorldTest extends Check {
         due("players at first", new Judge().count(2), 2);
     }
 
+    private static void kindsOfThings() {
+        sentence("KINDS: 0 BODY (of a player), 1 BEAST, 2 WOLF, 3 POT, 4 TRAP, 5 STONE, 6 LAMP, 7 CROWN");
+        Game g = new Game(10, 10, 4);
+        for (int kind = 1; kind <= 7; kind++) g.places(kind, 40 + kind);
+        sentence("The BODIES of players 0 .. P - 1 (P 1 .. 4, 2 at first) are THINGS 0 .. P - 1");
+        for (int n = 0; n < 4; n++) due("a body", g.x.thing(n, 0), 0);
+        for (int n = 4; n < 11; n++) due("thing " + n, g.x.thing(n, 0), n - 3);
+        due("no thing 11", g.x.thing(11, 0), NONE);
+    }
+
+    private static void restKnownAndPointsAtFirst() {
+        sentence("REST of a BODY: 0 at first. KNOWN of a player: a set of DOORS. POINTS: 0 at first");
+        for (int players = 1; players <= 4; players++) {
+            Game g = new Game(3, 3, players);
+            for (int p = 0; p < players; p++) {
+                due("rest", g.x.body(p, 3), 0);
+                due("points", g.x.body(p, 5), 0);
+                due("known", g.x.body(p, 6), 0);
+            }
+        }
+        Game h = new Game(10, 3, 1);
+        for (int i = 0; i < 8; i++) h.x.door(20 + i, 0);
+        for (int i = 0; i < 8; i++) due("a plate", h.x.plate(1 + i, 7 - i), 3);
+        int known = 0;
+        for (int i = 0; i < 8; i++) {
+            h.doNow(0, STEP, RIGHT);
+            known += 1 << 7 - i;
+            due("so many doors", h.x.body(0, 6), known);
+        }
+        due("all of them", known, 255);
+    }
+
     private static void faceAndLifeAtFirst() {
         sentence("FACE 1. LIFE at first: BODY 5, BEAST 2, WOLF 3, others 0");
         Game g = new Game(10, 10, 4);
@@ -391,6 +426,24 @@ public final class EdgesOfTheWorldTest extends Check {
         for (int c = 0; c < 25; c++) due("map", x.wall(c), fresh.wall(c));
     }
 
+    /** THINGS 1 to 3 were a beast, a stone and a crown, and are BODIES now. */
+    private static void beginForgetsKinds() {
+        sentence("All is as at first (TAPES stay), with these columns, rows and players");
+        Game g = new Game(3, 3, 1);
+        g.places(BEAST, 4);
+        g.places(STONE, 0);
+        g.places(CROWN, 0);
+        g.doNow(0, TAKE, 0);
+        due("begin", g.x.begin(3, 3, 4), 9);
+        for (int n = 0; n < 4; n++) {
+            due("kind of " + n, g.x.thing(n, 0), 0);
+            due("carrier of " + n, g.x.thing(n, 3), -1);
+            due("load of " + n, g.x.body(n, 4), -1);
+            due("life of " + n, g.x.thing(n, 2), 5);
+        }
+        due("told of a body", g.x.told(0, 8), 8);
+    }
+
     private static void beginForgetsTheRun() {
         sentence("All is as at first (TAPES stay), with these columns, rows and players");
         Judge x = usedUp();
@@ -423,6 +476,15 @@ public final class EdgesOfTheWorldTest extends Check {
             x.step();
         }
         due("no gap is left from then", x.watch(0, 1, 0), 0);
+        Game g = new Game(3, 3, 3);
+        g.x.late(1);
+        g.doNow(2, SHOT, LEFT);
+        g.stepsTo(4);
+        due("a late shot", g.send(2, SHOT, LEFT, 0, 3), 1);
+        g.steps(2);
+        due("hits in time and late", g.x.fair(2, 0) * 10 + g.x.fair(2, 1), 11);
+        g.x.begin(3, 3, 3);
+        due("no hits", g.x.fair(2, 0) * 10 + g.x.fair(2, 1), 0);
     }
 
     private static void tapesStay() {

@@ -29,6 +29,9 @@ public final class FaceTest {
         for (Class<?> inside : face.getDeclaredClasses()) {
             Check.due(inside + " is static", Modifier.isStatic(inside.getModifiers()) ? 1 : 0, 1);
             Check.due(inside + " is not public", Modifier.isPublic(inside.getModifiers()) ? 1 : 0, 0);
+            for (Method m : inside.getDeclaredMethods()) {
+                for (String sign : METHODS) Check.due(m + " bears a public name", sign.split(" ")[1].equals(m.getName()) ? 1 : 0, 0);
+            }
         }
         Check.end("FaceTest");
     }
