@@ -66,6 +66,7 @@ public final class FaceTest {
             StringBuilder sign = new StringBuilder(m.getReturnType() + " " + m.getName());
             for (Class<?> p : m.getParameterTypes()) sign.append(" ").append(p);
             Check.due(sign + " is of the face", left.remove(sign.toString()) ? 1 : 0, 1);
+            Check.due(sign + " says what it throws", m.getExceptionTypes().length, m.getName().equals("at") ? 2 : 0);
         }
         Check.due("methods that are missing: " + left, left.size(), 0);
     }
